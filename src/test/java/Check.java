@@ -2,15 +2,21 @@
 final class Check {
     private static int wrong = 0;
     private static int asked = 0;
+    private static String sentence = "";
 
     private Check() {
+    }
+
+    /** What is asked from here on would be broken together with this sentence of the document. */
+    static void by(String words) {
+        sentence = "[" + words + "] ";
     }
 
     static void due(String call, long got, long want) {
         asked++;
         if (got != want) {
             wrong++;
-            System.out.println(call + " answered " + got + ", due is " + want);
+            System.out.println(sentence + call + " answered " + got + ", due is " + want);
         }
     }
 
@@ -89,6 +95,60 @@ final class Check {
     static void storeFrom(MicroTasks x, int place, Code... codes) {
         for (int i = 0; i < codes.length; i++) {
             due("store(" + (place + i) + ", ..)", x.store(place + i, codes[i].bits()), true);
+        }
+    }
+
+    /**
+     * Numbers that are not among 0 .. size - 1: the nearest ones on both sides, those that a
+     * modulo of the size or of a word would lead back inside, and the farthest ones.
+     */
+    static int[] outside(int size) {
+        return new int[] {
+            -1, -2, -size, 1 - 2 * size, Integer.MIN_VALUE, Integer.MIN_VALUE + 1,
+            size, size + 1, 2 * size - 1, 2 * size, 65536, 65537, Integer.MAX_VALUE
+        };
+    }
+
+    /** The near ones come first, and a wrong answer ends it: two thousand million cycles would take too long. */
+    static void refusedRuns(MicroTasks x) {
+        int[] refused = {0, -1, -2, -5000, 5001, 5002, 10000, 65537, Integer.MIN_VALUE, Integer.MAX_VALUE};
+        for (int cycles : refused) {
+            int answer = x.run(cycles);
+            due("run(" + cycles + ")", answer, -1);
+            if (answer != -1) {
+                return;
+            }
+        }
+    }
+
+    /** What the calls that only ask tell of an object, in 120 calls, so that two tellings can be compared. */
+    static int[] told(MicroTasks x) {
+        int[] row = new int[120];
+        int n = 0;
+        for (int k = 0; k < 36; k++) {
+            row[n++] = x.register(k);
+        }
+        for (int t = 0; t < 16; t++) {
+            for (int what = 0; what < 4; what++) {
+                row[n++] = x.task(t, what);
+            }
+        }
+        for (int what = 0; what < 4; what++) {
+            row[n++] = x.count(what);
+        }
+        for (int place : new int[] {0, 1, 2, 31, 511, 512, 1021, 1022, 1023}) {
+            row[n++] = x.peek(place);
+        }
+        for (int i : new int[] {0, 1, 2, 3, 498, 499}) {
+            row[n++] = x.out(i);
+        }
+        row[n] = x.now();
+        return row;
+    }
+
+    static void sameTold(String call, int[] before, int[] after) {
+        for (int i = 0; i < before.length; i++) {
+            due(call + " changes nothing; row " + i + " of what is told", after[i], before[i]);
         }
     }
 
